@@ -1,0 +1,44 @@
+/** Counts the answers that are not due, and prints each of them. */
+final class Check {
+    private final String name;
+    private int checked = 0;
+    private int wrong = 0;
+
+    Check(String name) {
+        this.name = name;
+    }
+
+    void due(String call, long got, long want) {
+        checked++;
+        if (got != want) {
+            wrong++;
+            System.out.println(name + ": " + call + " answered " + got + ", due is " + want);
+        }
+    }
+
+    void same(String what, String got, String want) {
+        checked++;
+        if (!got.equals(want)) {
+            wrong++;
+            System.out.println(name + ": " + what + " is " + got + ", due is " + want);
+        }
+    }
+
+    /** Does a call that has to return the error, and looks whether it changed anything. */
+    void error(SilentDrives x, String call, LongCall does, long want) {
+        String before = Looks.at(x);
+        due(call, does.answer(), want);
+        same("what there is behind " + call, Looks.at(x), before);
+    }
+
+    void end() {
+        System.out.println(name + ": " + (checked - wrong) + " of " + checked + " answers are as due");
+        if (wrong != 0 || checked == 0) {
+            System.exit(1);
+        }
+    }
+
+    interface LongCall {
+        long answer();
+    }
+}
