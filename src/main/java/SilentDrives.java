@@ -184,8 +184,12 @@ public final class SilentDrives {
         for (int hour = before + 1; hour <= last; hour++) {
             // A sold hour changes nothing before it begins, so all hours are tried from one run of time.
             trial.passMinutes(hour * HOUR_MINUTES - trial.now);
-            if (trial.drives[drive].hourState(hour) == NOT_SOLD && isSafeIfSold(drive, hour)) {
-                return hour;
+            if (trial.drives[drive].hourState(hour) == NOT_SOLD) {
+                soldTrial.copyFrom(trial);
+                soldTrial.drives[drive].markHour(hour, SOLD);
+                if (soldTrial.passesWithoutOverrun(HOUR_MINUTES)) {
+                    return hour;
+                }
             }
         }
         return NONE;
@@ -308,15 +312,12 @@ public final class SilentDrives {
         trial.passMinutes(minutes);
     }
 
-    /** The trial has to stand at the first minute of the hour. */
-    private boolean isSafeIfSold(int drive, int hour) {
-        soldTrial.copyFrom(trial);
-        soldTrial.drives[drive].markHour(hour, SOLD);
-        return soldTrial.passesWithoutOverrun(HOUR_MINUTES);
-    }
-
     private static boolean isDrive(int drive) {
         return drive >= 0 && drive < DRIVES;
+    }
+
+    private static int twinOf(int drive) {
+        return drive % 2 == 0 ? drive + 1 : drive - 1;
     }
 
     private static boolean isHour(int hour) {
@@ -409,11 +410,11 @@ public final class SilentDrives {
         }
 
         int hourState(int hour) {
-            return hour >= 0 && hour < HOURS ? hours[hour] : NOT_SOLD;
+            return isHour(hour) ? hours[hour] : NOT_SOLD;
         }
 
         void markHour(int hour, int state) {
-            if (hour >= 0 && hour < HOURS) {
+            if (isHour(hour)) {
                 hours[hour] = (byte) state;
             }
         }
@@ -480,10 +481,9 @@ public final class SilentDrives {
             }
         }
 
-        void cleanCells(int speed) {
-            int cleaned = Math.min(speed, stale);
-            stale -= cleaned;
-            free += cleaned;
+        void cleanCells(int cells) {
+            stale -= cells;
+            free += cells;
             sounded++;
         }
     }
@@ -606,7 +606,7 @@ public final class SilentDrives {
         boolean passOneMinute() {
             boolean overrun = false;
             for (int drive = 0; drive < DRIVES; drive++) {
-                if (passMinuteOf(drives[drive], drives[drive ^ 1])) {
+                if (passMinuteOf(drives[drive], drives[twinOf(drive)])) {
                     overrun = true;
                 }
             }
@@ -651,7 +651,7 @@ public final class SilentDrives {
             boolean wants = quiet ? drive.held > settings[ROOM] : drive.cleaning || drive.free < settings[LOW];
             boolean sounds = wants && drive.stale > 0;
             if (sounds) {
-                drive.cleanCells(settings[SPEED]);
+                drive.cleanCells(Math.min(settings[SPEED], drive.stale));
             }
             drive.cleaning = sounds && !quiet && drive.free < settings[HIGH] && drive.stale > 0;
             return sounds;

@@ -3,7 +3,9 @@ public final class HistoryTest {
     private static final Check CHECK = new Check("HistoryTest");
 
     public static void main(String[] args) {
+        busyIsBusy();
         undoEachChange();
+        undoBringsFinesBack();
         undoKeepsSix();
         undoOfNothingDifferent();
         undoKeepsPadAndSlots();
@@ -15,20 +17,48 @@ public final class HistoryTest {
         CHECK.end();
     }
 
-    /** Drives at minute 100 of which almost everything is different from a new object. */
+    /** Drives at minute 150 of which everything is different from a new object. */
     private static SilentDrives busy() {
         SilentDrives x = new SilentDrives();
         for (int drive = 0; drive < 4; drive++) {
             x.sell(drive, 1);
-            x.stream(drive, drive + 2, drive + 5);
+            x.stream(drive, 8 * drive + 5, drive + 1);
         }
+        x.sell(0, 2);
         x.sell(1, 3);
+        x.set(SilentDrives.BONUS, 9);
+        x.pass(90);
+        // Overruns in the hour 1 are fined; those in the hour 2 use some of the credits for the kept hours up.
+        x.write(0, 150);
+        x.pass(32);
+        x.write(1, 50);
         x.write(0, 90);
-        x.pass(100);
+        x.pass(23);
+        x.write(2, 60);
+        x.pass(5);
         for (int setting = 0; setting < 7; setting++) {
             x.set(setting, setting + 2);
         }
         return x;
+    }
+
+    /** What is as in a new object would not show whether it is brought back. */
+    private static void busyIsBusy() {
+        SilentDrives x = busy();
+        SilentDrives fresh = new SilentDrives();
+        for (int what = 0; what < 14; what++) {
+            int different = 0;
+            for (int drive = 0; drive < 4; drive++) {
+                different += x.ofDrive(drive, what) != fresh.ofDrive(drive, what) ? 1 : 0;
+            }
+            CHECK.due("ofDrive(.., " + what + ") is different", different > 0 ? 1 : 0, 1);
+        }
+        for (int what = 0; what < 13; what++) {
+            CHECK.due("count(" + what + ") is different", x.count(what) != fresh.count(what) ? 1 : 0, 1);
+        }
+        CHECK.due("a kept hour", x.hour(2, 1), 2);
+        CHECK.due("a spoiled hour", x.hour(0, 1), 3);
+        CHECK.due("an hour to come", x.hour(1, 3), 1);
     }
 
     private static final int CHANGES = 9;
@@ -67,6 +97,21 @@ public final class HistoryTest {
             CHECK.same("the state without change " + which, Looks.atState(x), before);
             CHECK.due("changes", x.count(14), 5);
         }
+    }
+
+    private static void undoBringsFinesBack() {
+        SilentDrives x = new SilentDrives();
+        x.sell(0, 1);
+        x.sell(1, 1);
+        x.pass(60);
+        x.write(0, 90);
+        CHECK.due("pass(2)", x.pass(2), 62);
+        CHECK.due("fined", x.count(3), 10);
+        CHECK.due("save(1)", x.save(1), 62);
+        CHECK.due("undo()", x.undo(), 4);
+        CHECK.due("fined behind undo()", x.count(3), 0);
+        CHECK.due("restore(1)", x.restore(1), 62);
+        CHECK.due("fined behind restore()", x.count(3), 10);
     }
 
     private static void undoKeepsSix() {
@@ -161,20 +206,20 @@ public final class HistoryTest {
     private static void save() {
         SilentDrives x = busy();
         String first = Looks.atState(x);
-        CHECK.due("save(0)", x.save(0), 100);
+        CHECK.due("save(0)", x.save(0), 150);
         CHECK.same("the state", Looks.atState(x), first);
         CHECK.due("changes", x.count(14), 6);
         x.pass(20);
         String second = Looks.atState(x);
-        CHECK.due("save(1)", x.save(1), 120);
+        CHECK.due("save(1)", x.save(1), 170);
         x.pass(20);
-        CHECK.due("restore(0)", x.restore(0), 100);
+        CHECK.due("restore(0)", x.restore(0), 150);
         CHECK.same("the state", Looks.atState(x), first);
-        CHECK.due("restore(1)", x.restore(1), 120);
+        CHECK.due("restore(1)", x.restore(1), 170);
         CHECK.same("the state", Looks.atState(x), second);
-        CHECK.due("save(0) overwrites", x.save(0), 120);
+        CHECK.due("save(0) overwrites", x.save(0), 170);
         x.write(0, 1);
-        CHECK.due("restore(0)", x.restore(0), 120);
+        CHECK.due("restore(0)", x.restore(0), 170);
         CHECK.same("the state", Looks.atState(x), second);
     }
 

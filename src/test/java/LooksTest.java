@@ -110,6 +110,13 @@ public final class LooksTest {
         CHECK.due("streak over an hour that is not sold", before.streak(0), 2);
         before.pass(120);
         CHECK.due("streak over all kept ones behind the spoiled one", before.streak(0), 3);
+        SilentDrives last = new SilentDrives();
+        last.sell(3, 99);
+        last.sell(3, 98);
+        for (int i = 0; i < 11; i++) {
+            last.pass(600);
+        }
+        CHECK.due("streak with the hour 99", last.streak(3), 2);
     }
 
     private static void share(SilentDrives x) {

@@ -16,6 +16,8 @@ public final class MinuteTest {
         cleansInQuietHours();
         finesAndCredits();
         forgetsCleaningInQuietHours();
+        keepsCleaningInWhatIfs();
+        cleansNoLentCells();
         CHECK.end();
     }
 
@@ -388,5 +390,33 @@ public final class MinuteTest {
         x.set(SilentDrives.LOW, 8);
         x.pass(5);
         CHECK.due("sounded behind the quiet hour, not below LOW", x.ofDrive(0, 7), 2);
+    }
+
+    private static void keepsCleaningInWhatIfs() {
+        SilentDrives x = new SilentDrives();
+        x.write(0, 41);
+        x.pass(2);
+        cells(x, 0, "above LOW, and cleaning", 27_33_00_00L);
+        CHECK.due("freeIn(0, 1)", x.freeIn(0, 1), 31);
+        x.pass(7);
+        CHECK.due("cleaning", x.ofDrive(0, 5), 0);
+        CHECK.due("undo()", x.undo(), 2);
+        x.pass(1);
+        cells(x, 0, "that cleans on behind undo()", 31_29_00_00L);
+    }
+
+    private static void cleansNoLentCells() {
+        SilentDrives x = new SilentDrives();
+        x.sell(0, 1);
+        x.pass(60);
+        x.write(0, 125);
+        x.pass(5);
+        cells(x, 1, "that keeps 45", 15_00_45_00L);
+        CHECK.due("sounded without a stale cell, below LOW", x.ofDrive(1, 7), 0);
+        x.write(1, 3);
+        x.pass(1);
+        cells(x, 1, "that cleaned its stale cells up", 15_00_45_00L);
+        CHECK.due("sounded", x.ofDrive(1, 7), 1);
+        CHECK.due("cleaning below HIGH without a stale cell", x.ofDrive(1, 5), 0);
     }
 }
