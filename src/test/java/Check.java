@@ -8,6 +8,14 @@ final class Check {
         this.name = name;
     }
 
+    int checked() {
+        return checked;
+    }
+
+    int wrong() {
+        return wrong;
+    }
+
     void due(String call, long got, long want) {
         checked++;
         if (got != want) {
@@ -24,21 +32,10 @@ final class Check {
         }
     }
 
-    /** Does a call that has to return the error, and looks whether it changed anything. */
-    void error(SilentDrives x, String call, LongCall does, long want) {
-        String before = Looks.at(x);
-        due(call, does.answer(), want);
-        same("what there is behind " + call, Looks.at(x), before);
-    }
-
     void end() {
         System.out.println(name + ": " + (checked - wrong) + " of " + checked + " answers are as due");
         if (wrong != 0 || checked == 0) {
             System.exit(1);
         }
-    }
-
-    interface LongCall {
-        long answer();
     }
 }

@@ -1,9 +1,13 @@
 import java.util.Random;
 
-/** Long runs of calls, good and bad ones, whose answers have to be those of the model; the runs are always the same. */
+/** Runs of 512 calls, good and bad ones, whose answers have to be those of the model; the runs are always the same. */
 public final class ModelTest {
-    private static final int RUNS = 300;
+    private static final int RUNS = 3000;
+    /** What an object is used for: behind it the document promises nothing. */
     private static final int CALLS = 512;
+    /** The calls of the look at the end, and as many as a step may take. */
+    private static final int LAST_LOOK = 4 * 14 + 4 * 3 + 15;
+    private static final int LONGEST_STEP = 30;
     private static final Check CHECK = new Check("ModelTest");
 
     private final Random random;
@@ -12,6 +16,7 @@ public final class ModelTest {
     // Some runs are full of units and sold hours, some let more time pass: a call of each run has its own chances.
     private final int busy;
     private final int hurry;
+    private int calls = 0;
 
     private ModelTest(int run) {
         random = new Random(run);
@@ -22,9 +27,11 @@ public final class ModelTest {
     public static void main(String[] args) {
         for (int run = 0; run < RUNS; run++) {
             ModelTest test = new ModelTest(run);
-            for (int call = 0; call < CALLS; call++) {
-                test.call("run " + run + ", call " + call + ": ");
+            while (test.calls + LONGEST_STEP + LAST_LOOK <= CALLS) {
+                test.step("run " + run + ", call " + test.calls + ": ");
             }
+            test.lookAtAll("run " + run + ", at its end: ");
+            CHECK.due("run " + run + ": more calls than an object is good for", test.calls > CALLS ? 1 : 0, 0);
         }
         CHECK.end();
     }
@@ -54,7 +61,12 @@ public final class ModelTest {
         return 1 + below(most[below(1 + hurry)]);
     }
 
-    private void call(String at) {
+    private void due(String call, long got, long want) {
+        calls++;
+        CHECK.due(call, got, want);
+    }
+
+    private void step(String at) {
         int kind = below(100);
         if (kind < 60) {
             change(at, below(20));
@@ -74,26 +86,26 @@ public final class ModelTest {
         if (kind < 2) {
             int setting = below(30) == 0 ? far() : below(7);
             int value = below(10) == 0 ? far() : below(setting == 0 ? 1000 : setting == 2 ? 10 : setting == 5 ? 21 : 61);
-            CHECK.due(at + "set(" + setting + ", " + value + ")", x.set(setting, value), model.set(setting, value));
+            due(at + "set(" + setting + ", " + value + ")", x.set(setting, value), model.set(setting, value));
         } else if (kind < 4) {
             int every = below(20) == 0 ? far() : 1 + below(below(3) == 0 ? 60 : 10);
             int units = below(20) == 0 ? far() : below(busy > 1 ? 21 : 6);
-            CHECK.due(at + "stream(" + d + ", " + every + ", " + units + ")", x.stream(d, every, units),
+            due(at + "stream(" + d + ", " + every + ", " + units + ")", x.stream(d, every, units),
                     model.stream(d, every, units));
         } else if (kind < 8) {
             int units = below(20) == 0 ? far() : 1 + below(busy > 0 ? 200 : 70);
-            CHECK.due(at + "write(" + d + ", " + units + ")", x.write(d, units), model.write(d, units));
+            due(at + "write(" + d + ", " + units + ")", x.write(d, units), model.write(d, units));
         } else if (kind < 12) {
             int hour = hourNearNow();
-            CHECK.due(at + "sell(" + d + ", " + hour + ")", x.sell(d, hour), model.sell(d, hour));
+            due(at + "sell(" + d + ", " + hour + ")", x.sell(d, hour), model.sell(d, hour));
         } else if (kind < 13) {
             int hour = hourNearNow();
-            CHECK.due(at + "giveBack(" + d + ", " + hour + ")", x.giveBack(d, hour), model.giveBack(d, hour));
+            due(at + "giveBack(" + d + ", " + hour + ")", x.giveBack(d, hour), model.giveBack(d, hour));
         } else if (kind < 18) {
             int minutes = minutes();
-            CHECK.due(at + "pass(" + minutes + ")", x.pass(minutes), model.pass(minutes));
+            due(at + "pass(" + minutes + ")", x.pass(minutes), model.pass(minutes));
         } else {
-            CHECK.due(at + "undo()", x.undo(), model.undo());
+            due(at + "undo()", x.undo(), model.undo());
         }
     }
 
@@ -101,20 +113,25 @@ public final class ModelTest {
         int d = drive();
         int what = below(20) == 0 ? far() : below(15);
         int hour = hourNearNow() - below(8);
-        CHECK.due(at + "ofDrive(" + d + ", " + what + ")", x.ofDrive(d, what), model.ofDrive(d, what));
-        CHECK.due(at + "hour(" + d + ", " + hour + ")", x.hour(d, hour), model.hour(d, hour));
-        CHECK.due(at + "streak(" + d + ")", x.streak(d), model.streak(d));
-        CHECK.due(at + "share(" + d + ")", x.share(d), model.share(d));
-        CHECK.due(at + "mean(" + d + ")", x.mean(d), model.mean(d));
-        CHECK.due(at + "count(" + what + ")", x.count(what), model.count(what));
+        due(at + "ofDrive(" + d + ", " + what + ")", x.ofDrive(d, what), model.ofDrive(d, what));
+        due(at + "hour(" + d + ", " + hour + ")", x.hour(d, hour), model.hour(d, hour));
+        due(at + "streak(" + d + ")", x.streak(d), model.streak(d));
+        due(at + "share(" + d + ")", x.share(d), model.share(d));
+        due(at + "mean(" + d + ")", x.mean(d), model.mean(d));
+        due(at + "count(" + what + ")", x.count(what), model.count(what));
+    }
+
+    private void lookAtAll(String at) {
         for (int drive = 0; drive < 4; drive++) {
             for (int number = 0; number < 14; number++) {
-                CHECK.due(at + "ofDrive(" + drive + ", " + number + ")", x.ofDrive(drive, number),
-                        model.ofDrive(drive, number));
+                due(at + "ofDrive(" + drive + ", " + number + ")", x.ofDrive(drive, number), model.ofDrive(drive, number));
             }
+            due(at + "streak(" + drive + ")", x.streak(drive), model.streak(drive));
+            due(at + "share(" + drive + ")", x.share(drive), model.share(drive));
+            due(at + "mean(" + drive + ")", x.mean(drive), model.mean(drive));
         }
         for (int number = 0; number < 15; number++) {
-            CHECK.due(at + "count(" + number + ")", x.count(number), model.count(number));
+            due(at + "count(" + number + ")", x.count(number), model.count(number));
         }
     }
 
@@ -124,19 +141,19 @@ public final class ModelTest {
         int hours = below(10) == 0 ? far() : 1 + below(10);
         switch (below(5)) {
             case 0:
-                CHECK.due(at + "loudIn(" + d + ", " + minutes + ")", x.loudIn(d, minutes), model.loudIn(d, minutes));
+                due(at + "loudIn(" + d + ", " + minutes + ")", x.loudIn(d, minutes), model.loudIn(d, minutes));
                 break;
             case 1:
-                CHECK.due(at + "freeIn(" + d + ", " + minutes + ")", x.freeIn(d, minutes), model.freeIn(d, minutes));
+                due(at + "freeIn(" + d + ", " + minutes + ")", x.freeIn(d, minutes), model.freeIn(d, minutes));
                 break;
             case 2:
-                CHECK.due(at + "mostHeld(" + d + ", " + minutes + ")", x.mostHeld(d, minutes), model.mostHeld(d, minutes));
+                due(at + "mostHeld(" + d + ", " + minutes + ")", x.mostHeld(d, minutes), model.mostHeld(d, minutes));
                 break;
             case 3:
-                CHECK.due(at + "firstSafe(" + d + ")", x.firstSafe(d), model.firstSafe(d));
+                due(at + "firstSafe(" + d + ")", x.firstSafe(d), model.firstSafe(d));
                 break;
             default:
-                CHECK.due(at + "leastRoom(" + hours + ")", x.leastRoom(hours), model.leastRoom(hours));
+                due(at + "leastRoom(" + hours + ")", x.leastRoom(hours), model.leastRoom(hours));
         }
     }
 
@@ -147,14 +164,14 @@ public final class ModelTest {
             if (below(60) == 0) {
                 number ^= 1L << below(64);
             }
-            CHECK.due(at + "put(" + number + ")", x.put(number), model.put(number));
-            CHECK.due(at + "fault()", x.fault(), model.fault());
+            due(at + "put(" + number + ")", x.put(number), model.put(number));
+            due(at + "fault()", x.fault(), model.fault());
         }
         if (below(4) > 0) {
-            CHECK.due(at + "carryOut()", x.carryOut(), model.carryOut());
+            due(at + "carryOut()", x.carryOut(), model.carryOut());
         }
         if (below(3) > 0) {
-            CHECK.due(at + "wipe()", x.wipe(), model.wipe());
+            due(at + "wipe()", x.wipe(), model.wipe());
         }
     }
 
@@ -187,9 +204,9 @@ public final class ModelTest {
     private void save(String at) {
         int slot = below(20) == 0 ? far() : below(2);
         if (below(2) == 0) {
-            CHECK.due(at + "save(" + slot + ")", x.save(slot), model.save(slot));
+            due(at + "save(" + slot + ")", x.save(slot), model.save(slot));
         } else {
-            CHECK.due(at + "restore(" + slot + ")", x.restore(slot), model.restore(slot));
+            due(at + "restore(" + slot + ")", x.restore(slot), model.restore(slot));
         }
     }
 }
