@@ -69,6 +69,27 @@ final class Document {
         return stretches;
     }
 
+    /** The names of the calls, in the order of their promises; the constructor's is that of its heading. */
+    List<String> calls() {
+        List<String> calls = new ArrayList<>();
+        for (String heading : texts.keySet()) {
+            if (heading.startsWith("Promise ")) {
+                calls.add(heading.replaceFirst("^Promise \\d+: ", ""));
+            }
+        }
+        return calls;
+    }
+
+    /** What is promised of a call; nothing if there is no such call. */
+    String promiseOf(String call) {
+        for (Map.Entry<String, String> section : texts.entrySet()) {
+            if (section.getKey().matches("Promise \\d+: " + call)) {
+                return section.getValue();
+            }
+        }
+        return "";
+    }
+
     int headings() {
         return texts.size();
     }
